@@ -2,8 +2,8 @@ import java.util.NoSuchElementException;
 
 /**
  * A kernel whose calls can be grouped into transactions. A call of the face looks at its numbers
- * first; what else can go wrong travels inwards to outwards as a state (see FAILED and the others)
- * and becomes an exception only at the very end, when everything has been put in order.
+ * first; what else goes wrong is handed outwards as a state (FAILED and the others) and becomes an
+ * exception only in answered(), when everything has been put in order.
  */
 public final class XactKernel {
     public static final int FREE = 0, FILE = 1, DIRECTORY = 2, PIPE = 3;
@@ -589,13 +589,25 @@ public final class XactKernel {
         return k == NONE ? MISSING : seen.targets[k];
     }
 
-    /** Like lookFor, for a name that must be free: OK if it is. */
-    private int lookForNothing(int p, int i, int name) {
-        int found = lookFor(p, i, name);
+    /** The item in which the last name of a path is free, or why there is none. */
+    private int walkToFreeName(int p, int path) {
+        int holder = walk(p, path, namesIn(path) - 1);
+        if (holder < 0) {
+            return holder;
+        }
+        int found = lookFor(p, holder, lastName(path));
         if (found >= 0) {
             return REFUSED;
         }
-        return found == MISSING ? OK : found;
+        return found == MISSING ? holder : found;
+    }
+
+    /** Whether a holder, met as one that is written, has room for an entry more. */
+    private int meetsWithRoom(int p, int holder) {
+        if (!meets(p, holder, WRITING)) {
+            return FAILED;
+        }
+        return seenBy(p, holder).length < ENTRIES ? OK : FULL;
     }
 
     private int measure(int p, int path) {
@@ -615,11 +627,9 @@ public final class XactKernel {
         if (made < 0) {
             return FULL;
         }
-        if (!meets(p, holder, WRITING)) {
-            return FAILED;
-        }
-        if (seenBy(p, holder).length >= ENTRIES) {
-            return FULL;
+        int state = meetsWithRoom(p, holder);
+        if (state != OK) {
+            return state;
         }
         Item fresh = copyFor(p, made);
         fresh.become(kind);
@@ -629,13 +639,9 @@ public final class XactKernel {
     }
 
     private int makeDirectory(int p, int path) {
-        int holder = walk(p, path, namesIn(path) - 1);
+        int holder = walkToFreeName(p, path);
         if (holder < 0) {
             return holder;
-        }
-        int state = lookForNothing(p, holder, lastName(path));
-        if (state != OK) {
-            return state;
         }
         int made = makeIn(p, holder, lastName(path), DIRECTORY);
         return made < 0 ? made : reply(made);
@@ -649,19 +655,13 @@ public final class XactKernel {
         if (seenBy(p, file).kind == DIRECTORY) {
             return REFUSED;
         }
-        int holder = walk(p, to, namesIn(to) - 1);
+        int holder = walkToFreeName(p, to);
         if (holder < 0) {
             return holder;
         }
-        int state = lookForNothing(p, holder, lastName(to));
+        int state = meetsWithRoom(p, holder);
         if (state != OK) {
             return state;
-        }
-        if (!meets(p, holder, WRITING)) {
-            return FAILED;
-        }
-        if (seenBy(p, holder).length >= ENTRIES) {
-            return FULL;
         }
         if (!meets(p, file, WRITING)) {
             return FAILED;
@@ -717,13 +717,9 @@ public final class XactKernel {
         if (found < 0) {
             return found;
         }
-        int other = walk(p, to, namesIn(to) - 1);
+        int other = walkToFreeName(p, to);
         if (other < 0) {
             return other;
-        }
-        int state = lookForNothing(p, other, lastName(to));
-        if (state != OK) {
-            return state;
         }
         if (!meets(p, holder, WRITING) || !meets(p, other, WRITING)) {
             return FAILED;
@@ -1026,8 +1022,10 @@ public final class XactKernel {
         }
 
         private void copyFrom(Table other) {
-            System.arraycopy(other.items, 0, items, 0, DESCRIPTORS);
-            System.arraycopy(other.places, 0, places, 0, DESCRIPTORS);
+            for (int d = 0; d < DESCRIPTORS; d++) {
+                items[d] = other.items[d];
+                places[d] = other.places[d];
+            }
         }
 
         private void put(int d, int i, int place) {
