@@ -1,32 +1,30 @@
 import java.io.IOException;
-import java.lang.reflect.InvocationTargetException;
-import java.lang.reflect.Method;
 import java.nio.file.Files;
 import java.nio.file.Path;
 import java.util.ArrayList;
-import java.util.HashMap;
+import java.util.LinkedHashMap;
 import java.util.List;
 import java.util.Map;
+import java.util.TreeMap;
 import java.util.TreeSet;
 
 /**
- * Plays the runs under src/test/runs. A line "run text" makes a new object; a line
- * "name number .. -> answer" is a call with the answer that is due, a number or the simple name of
- * an exception's class without "Exception". "#" begins a comment. There must be a file for each promise.
+ * Plays the runs under src/test/runs. A line "run text" makes a new object. A line of calls is
+ * "name number .. -> answer", several with ";" between them; the answer that is due is a number or the
+ * simple name of an exception's class without "Exception". Behind "|" stands ALL that looks different
+ * after a call, "look -> new answer" with "|" between them, or "nothing". "#" begins a comment.
  */
 public final class RunFiles {
     private static final int PROMISES = 26;
-    private static final int MOST_CALLS = 512;
-    private static final Map<String, Method> CALLS = new HashMap<>();
+    private static final String[] KINDS = {"promise", "edges"};
+    private static final Map<String, TreeSet<String>> ANSWERS = new TreeMap<>();
     private static int wrong = 0;
     private static int calls = 0;
+    private static XactKernel kernel = null;
+    private static String run = "";
+    private static final List<String> PLAYED = new ArrayList<>();
 
     public static void main(String[] args) throws IOException {
-        for (Method m : XactKernel.class.getDeclaredMethods()) {
-            if (java.lang.reflect.Modifier.isPublic(m.getModifiers())) {
-                CALLS.put(m.getName(), m);
-            }
-        }
         List<Path> files = new ArrayList<>();
         if (args.length > 0) {
             for (String name : args) {
@@ -36,26 +34,41 @@ public final class RunFiles {
             try (var all = Files.list(Path.of("src/test/runs"))) {
                 all.sorted().forEach(files::add);
             }
-            demandFileForEachPromise(files);
         }
         for (Path file : files) {
             play(file);
+        }
+        if (args.length == 0) {
+            demandFilesForEachPromise(files);
         }
         System.out.println(calls + " calls of " + files.size() + " files, wrong: " + wrong);
         System.exit(wrong == 0 ? 0 : 1);
     }
 
-    private static void demandFileForEachPromise(List<Path> files) {
-        TreeSet<Integer> promises = new TreeSet<>();
-        for (Path file : files) {
-            String name = file.getFileName().toString();
-            if (name.matches("promise-\\d\\d-.*")) {
-                promises.add(Integer.parseInt(name.substring(8, 10)));
+    /** Each promise has its files, and in them each exception that it names. */
+    private static void demandFilesForEachPromise(List<Path> files) {
+        for (int n = 1; n <= PROMISES; n++) {
+            for (String kind : KINDS) {
+                String begin = String.format("%s-%02d-", kind, n);
+                boolean there = false;
+                for (Path file : files) {
+                    String name = file.getFileName().toString();
+                    if (name.startsWith(begin)) {
+                        there = true;
+                        demandEachException(name, name.substring(begin.length()).replace(".txt", ""));
+                    }
+                }
+                if (!there) {
+                    complain("no file of runs " + begin);
+                }
             }
         }
-        for (int n = 1; n <= PROMISES; n++) {
-            if (!promises.contains(n)) {
-                complain("no file of runs for promise " + n);
+    }
+
+    private static void demandEachException(String file, String call) {
+        for (String due : Calls.exceptionsOf(call)) {
+            if (!ANSWERS.getOrDefault(file + " " + call, new TreeSet<>()).contains(due)) {
+                complain(file + ": no call of " + call + " answers " + due);
             }
         }
     }
@@ -66,52 +79,73 @@ public final class RunFiles {
     }
 
     private static void play(Path file) throws IOException {
-        XactKernel kernel = null;
-        String run = "";
-        int made = 0;
         int number = 0;
+        kernel = null;
         for (String raw : Files.readAllLines(file)) {
             number++;
             String line = raw.replaceFirst("#.*", "").trim();
-            String where = file.getFileName() + ":" + number + " (" + run + "): " + line;
-            if (line.isEmpty()) {
-                continue;
-            }
+            String name = file.getFileName().toString();
             if (line.startsWith("run")) {
                 run = line;
                 kernel = new XactKernel();
-                made = 0;
-                continue;
-            }
-            String[] sides = line.split("\\s*->\\s*");
-            made++;
-            if (kernel == null || sides.length != 2 || made > MOST_CALLS) {
-                complain(where + " is no call of a run");
-                continue;
-            }
-            calls++;
-            String got = answer(kernel, sides[0].split("\\s+"));
-            if (!got.equals(sides[1])) {
-                complain(where + " answered " + got);
+                PLAYED.clear();
+            } else if (!line.isEmpty()) {
+                playLine(name, line, name + ":" + number + " (" + run + "): ");
             }
         }
     }
 
-    private static String answer(XactKernel kernel, String[] words) {
-        Method m = CALLS.get(words[0]);
-        if (m == null || m.getParameterCount() != words.length - 1) {
-            return "no such call";
+    private static void playLine(String file, String line, String where) {
+        if (!line.contains("|")) {
+            for (String call : line.split(";")) {
+                playCall(file, call.trim(), where);
+            }
+            return;
         }
-        Object[] numbers = new Object[words.length - 1];
-        for (int k = 0; k < numbers.length; k++) {
-            numbers[k] = Integer.decode(words[k + 1]);
+        String[] parts = line.split("\\|");
+        List<String> before = new ArrayList<>(PLAYED);
+        playCall(file, parts[0].trim(), where);
+        checkChanges(before, parts, where + line);
+    }
+
+    private static void playCall(String file, String text, String where) {
+        String[] sides = text.split("\\s*->\\s*");
+        if (kernel == null || sides.length != 2 || PLAYED.size() >= Calls.MOST) {
+            complain(where + text + " is no call of a run");
+            return;
         }
-        try {
-            return String.valueOf(m.invoke(kernel, numbers));
-        } catch (InvocationTargetException e) {
-            return e.getCause().getClass().getSimpleName().replaceFirst("Exception$", "");
-        } catch (IllegalAccessException e) {
-            return "not public";
+        calls++;
+        PLAYED.add(sides[0]);
+        String got = Calls.answer(kernel, sides[0]);
+        ANSWERS.computeIfAbsent(file + " " + sides[0].split(" ")[0], key -> new TreeSet<>()).add(got);
+        if (!got.equals(sides[1])) {
+            complain(where + text + " answered " + got);
+        }
+    }
+
+    private static void checkChanges(List<String> before, String[] parts, String where) {
+        if (PLAYED.size() > Looks.MOST_CALLS_BEFORE) {
+            complain(where + " comes too late in its run for a look at everything");
+            return;
+        }
+        Map<String, String> due = new LinkedHashMap<>();
+        boolean refused = !parts[0].matches(".*->\\s*-?\\d+\\s*");
+        boolean onlyReads = true;
+        for (int k = 1; k < parts.length; k++) {
+            String[] sides = parts[k].trim().split("\\s*->\\s*");
+            if (sides.length == 2) {
+                due.put(sides[0], sides[1]);
+                onlyReads &= sides[0].matches("item \\d+ 3");
+            } else if (!sides[0].equals("nothing")) {
+                complain(where + " has no such change as " + sides[0]);
+            }
+        }
+        Map<String, String> got = Looks.changes(Looks.after(before), Looks.after(PLAYED));
+        if (!got.equals(due)) {
+            complain(where + " changed " + got);
+        }
+        if (refused && onlyReads && !Looks.afterEnds(before).equals(Looks.afterEnds(PLAYED))) {
+            complain(where + " left a trace: " + Looks.changes(Looks.afterEnds(before), Looks.afterEnds(PLAYED)));
         }
     }
 }
