@@ -2,6 +2,7 @@ import java.lang.reflect.InvocationTargetException;
 import java.lang.reflect.Method;
 import java.lang.reflect.Modifier;
 import java.util.ArrayList;
+import java.util.HashMap;
 import java.util.List;
 import java.util.Map;
 import java.util.TreeMap;
@@ -11,6 +12,8 @@ final class Calls {
     /** The document promises nothing about an object beyond these. */
     static final int MOST = 512;
     private static final Map<String, Method> METHODS = methodsOfFace();
+    /** The same calls are made again and again, and reading one takes longer than making it. */
+    private static final Map<String, Object[]> NUMBERS = new HashMap<>();
 
     private Calls() {
     }
@@ -41,19 +44,20 @@ final class Calls {
     }
 
     static String shortName(Class<?> exception) {
-        return exception.getSimpleName().replaceFirst("Exception$", "");
+        return exception.getSimpleName().replace("Exception", "");
+    }
+
+    static String nameOf(String call) {
+        int end = call.indexOf(' ');
+        return end < 0 ? call : call.substring(0, end);
     }
 
     /** The answer to a call as it is written in a run: its name and its numbers. */
     static String answer(XactKernel kernel, String call) {
-        String[] words = call.trim().split("\\s+");
-        Method m = METHODS.get(words[0]);
-        if (m == null || m.getParameterCount() != words.length - 1) {
+        Method m = METHODS.get(nameOf(call));
+        Object[] numbers = NUMBERS.computeIfAbsent(call, Calls::numbersOf);
+        if (m == null || m.getParameterCount() != numbers.length) {
             return "no such call";
-        }
-        Object[] numbers = new Object[words.length - 1];
-        for (int k = 0; k < numbers.length; k++) {
-            numbers[k] = Integer.decode(words[k + 1]);
         }
         try {
             return String.valueOf(m.invoke(kernel, numbers));
@@ -62,5 +66,18 @@ final class Calls {
         } catch (IllegalAccessException e) {
             return "not public";
         }
+    }
+
+    private static Object[] numbersOf(String call) {
+        String[] words = call.split("\\s+");
+        Object[] numbers = new Object[words.length - 1];
+        for (int k = 0; k < numbers.length; k++) {
+            numbers[k] = Integer.decode(words[k + 1]);
+        }
+        return numbers;
+    }
+
+    static boolean isNumber(String answer) {
+        return answer.charAt(0) == '-' || Character.isDigit(answer.charAt(0));
     }
 }

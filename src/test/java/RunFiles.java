@@ -117,7 +117,7 @@ public final class RunFiles {
         calls++;
         PLAYED.add(sides[0]);
         String got = Calls.answer(kernel, sides[0]);
-        ANSWERS.computeIfAbsent(file + " " + sides[0].split(" ")[0], key -> new TreeSet<>()).add(got);
+        ANSWERS.computeIfAbsent(file + " " + Calls.nameOf(sides[0]), key -> new TreeSet<>()).add(got);
         if (!got.equals(sides[1])) {
             complain(where + text + " answered " + got);
         }
@@ -129,7 +129,7 @@ public final class RunFiles {
             return;
         }
         Map<String, String> due = new LinkedHashMap<>();
-        boolean refused = !parts[0].matches(".*->\\s*-?\\d+\\s*");
+        boolean refused = !Calls.isNumber(parts[0].split("->")[1].trim());
         boolean onlyReads = true;
         for (int k = 1; k < parts.length; k++) {
             String[] sides = parts[k].trim().split("\\s*->\\s*");
