@@ -293,7 +293,7 @@ public final class XactKernel {
         return OK;
     }
 
-    /** Leaves a call: if it was a transaction for itself, that ends here, too. */
+    /** Leaves a call: a transaction with depth 0, that of a call outside or of a last end(), ends here. */
     private int settle(int p, int state) {
         Transaction own = processes[p].own;
         int last = state;
@@ -342,17 +342,14 @@ public final class XactKernel {
         return reply(own.depth);
     }
 
+    /** One less deep; from 1 it is then as that of a call outside, and settle() ends it. */
     private int goBack(int p) {
         Transaction own = processes[p].own;
         if (own.depth == 0) {
             return MISSING;
         }
-        reply(own.depth - 1);
-        if (own.depth == 1) {
-            return conclude(p);
-        }
         own.depth--;
-        return OK;
+        return reply(own.depth);
     }
 
     private int giveUp(int p) {
@@ -423,9 +420,7 @@ public final class XactKernel {
         if (marked) {
             install(own);
         }
-        for (int i = FIRST_PIPE; i < ITEMS; i++) {
-            items[i].become(FREE);
-        }
+        // Without descriptors no pipe is named any more: they are freed when the call is left.
         for (int p = 0; p < PROCESSES; p++) {
             processes[p].reset(p == 0);
         }

@@ -16,8 +16,9 @@ import java.util.TreeSet;
  */
 public final class RunFiles {
     private static final int PROMISES = 26;
-    private static final String[] KINDS = {"promise", "edges"};
     private static final Map<String, TreeSet<String>> ANSWERS = new TreeMap<>();
+    /** Those answers behind which all that looks different is written. */
+    private static final Map<String, TreeSet<String>> WITH_CHANGES = new TreeMap<>();
     private static int wrong = 0;
     private static int calls = 0;
     private static XactKernel kernel = null;
@@ -45,29 +46,35 @@ public final class RunFiles {
         System.exit(wrong == 0 ? 0 : 1);
     }
 
-    /** Each promise has its files, and in them each exception that it names. */
+    /**
+     * Each promise has its files, and in them each exception that it names; in that of its boundary cases
+     * with all that looks different then.
+     */
     private static void demandFilesForEachPromise(List<Path> files) {
         for (int n = 1; n <= PROMISES; n++) {
-            for (String kind : KINDS) {
-                String begin = String.format("%s-%02d-", kind, n);
-                boolean there = false;
-                for (Path file : files) {
-                    String name = file.getFileName().toString();
-                    if (name.startsWith(begin)) {
-                        there = true;
-                        demandEachException(name, name.substring(begin.length()).replace(".txt", ""));
-                    }
-                }
-                if (!there) {
-                    complain("no file of runs " + begin);
-                }
-            }
+            demandFile(files, String.format("promise-%02d-", n), ANSWERS);
+            demandFile(files, String.format("edges-%02d-", n), WITH_CHANGES);
         }
     }
 
-    private static void demandEachException(String file, String call) {
+    private static void demandFile(List<Path> files, String begin, Map<String, TreeSet<String>> answers) {
+        boolean there = false;
+        for (Path file : files) {
+            String name = file.getFileName().toString();
+            if (name.startsWith(begin)) {
+                there = true;
+                String call = name.substring(begin.length()).replace(".txt", "");
+                demandEachException(name, call, answers.getOrDefault(name + " " + call, new TreeSet<>()));
+            }
+        }
+        if (!there) {
+            complain("no file of runs " + begin);
+        }
+    }
+
+    private static void demandEachException(String file, String call, TreeSet<String> answers) {
         for (String due : Calls.exceptionsOf(call)) {
-            if (!ANSWERS.getOrDefault(file + " " + call, new TreeSet<>()).contains(due)) {
+            if (!answers.contains(due)) {
                 complain(file + ": no call of " + call + " answers " + due);
             }
         }
@@ -98,38 +105,38 @@ public final class RunFiles {
     private static void playLine(String file, String line, String where) {
         if (!line.contains("|")) {
             for (String call : line.split(";")) {
-                playCall(file, call.trim(), where);
+                playCall(file, call.trim(), where, ANSWERS);
             }
             return;
         }
         String[] parts = line.split("\\|");
         List<String> before = new ArrayList<>(PLAYED);
-        playCall(file, parts[0].trim(), where);
-        checkChanges(before, parts, where + line);
+        String answer = playCall(file, parts[0].trim(), where, WITH_CHANGES);
+        checkChanges(before, parts, where + line, !Calls.isNumber(answer));
     }
 
-    private static void playCall(String file, String text, String where) {
+    private static String playCall(String file, String text, String where, Map<String, TreeSet<String>> answers) {
         String[] sides = text.split("\\s*->\\s*");
         if (kernel == null || sides.length != 2 || PLAYED.size() >= Calls.MOST) {
             complain(where + text + " is no call of a run");
-            return;
+            return "none";
         }
         calls++;
         PLAYED.add(sides[0]);
         String got = Calls.answer(kernel, sides[0]);
-        ANSWERS.computeIfAbsent(file + " " + Calls.nameOf(sides[0]), key -> new TreeSet<>()).add(got);
+        answers.computeIfAbsent(file + " " + Calls.nameOf(sides[0]), key -> new TreeSet<>()).add(got);
         if (!got.equals(sides[1])) {
             complain(where + text + " answered " + got);
         }
+        return got;
     }
 
-    private static void checkChanges(List<String> before, String[] parts, String where) {
+    private static void checkChanges(List<String> before, String[] parts, String where, boolean refused) {
         if (PLAYED.size() > Looks.MOST_CALLS_BEFORE) {
             complain(where + " comes too late in its run for a look at everything");
             return;
         }
         Map<String, String> due = new LinkedHashMap<>();
-        boolean refused = !Calls.isNumber(parts[0].split("->")[1].trim());
         boolean onlyReads = true;
         for (int k = 1; k < parts.length; k++) {
             String[] sides = parts[k].trim().split("\\s*->\\s*");
